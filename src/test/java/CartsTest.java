@@ -72,6 +72,12 @@ public final class CartsTest {
         Due.is("3 FULL", come(x, least), FULL);
         Due.is("3 BAD ahead of FULL", x.cart(6, 0, 0, 1, 0, 0), BAD);
         Due.is("3 40 at most", x.count(1), 40);
+        x.row(999, 999);
+        Due.is("3 all lie", x.lies(0), 39);
+        Due.is("3 all are asked for what is owed", x.owed(0, 0, 399), 39 * 2);
+        Due.is("3 all are asked for a bid", x.bid(5, 0, 399, -1), 999 + 7992);
+        Due.is("3 all burn", x.fire(0, 100), 39);
+        Due.is("3 all are SIFTED", x.sift(0, 99999), 39);
     }
 
     private static int come(DustYards x, int[] n) {

@@ -119,6 +119,9 @@ public final class HandsTest {
         DustYards x = new DustYards();
         Due.is("29 no BARGES", x.tide(99999, 0), 0);
         Due.is("29 no freight", x.tide(99999, 1), 0);
+        DustYards one = new DustYards();
+        one.barge(1, 1);
+        Due.is("29 one BARGE", one.tide(1, 0), 1);
         x.barge(6, 30);
         x.barge(3, 14);
         x.barge(4, 16);
@@ -224,6 +227,14 @@ public final class HandsTest {
         Due.is("32 BUYER 1", x.parted(1), NO);
         Due.is("32 BUYER -2", x.parted(-2), NO);
         Due.is("32 no STOCK", x.parted(0), 0);
+        for (int b = 1; b < 6; b++) {
+            x.buyer(10 + b, 5);
+        }
+        x.cart(1, 0, 0, 200, 0, 0);
+        x.sift(0, 200);
+        Due.is("32 the last of six", x.parted(5), 15);
+        Due.is("32 all six", x.parted(-1), 0);
+        Due.is("32 none above six", x.parted(6), NO);
     }
 
     private static void count() {

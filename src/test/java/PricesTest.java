@@ -137,6 +137,17 @@ public final class PricesTest {
         fault("pay not;", 7);
         fault("pay 1 or;", 8);
         fault("pay 1 and or 1;", 10);
+        fault("pay 1 and;", 9);
+        fault("pay and 1;", 4);
+        fault("pay 1 not 1;", 6);
+        fault("pay 1+;", 6);
+        fault("pay 1*;", 6);
+        fault("pay 1<;", 6);
+        fault("pay -;", 5);
+        fault("pay (1+);", 7);
+        fault("payz 1;", 0);
+        fault("pay 1;fine 1;find 1;?", 20);
+        fault("pay 1;fine 1;find 1;1", 20);
         fault("pay (1;", 6);
         fault("pay (1;)", 6);
         fault("pay 1);", 5);
@@ -234,6 +245,12 @@ public final class PricesTest {
         Due.is("16 TEXT 0 pay", x.says(0, 0), -37);
         Due.is("16 TEXT 0 fine", x.says(0, 1), 0);
         Due.is("16 TEXT 0 find", x.says(0, 2), 1);
+        x.door(1, 1, 0, 0);
+        x.door(1, 1, 0, 0);
+        x.miss(0);
+        Due.is("16 TEXT 0 fine of one MISSED", x.says(0, 1), 5);
+        x.miss(1);
+        Due.is("16 TEXT 0 fine of two MISSED", x.says(0, 1), 10);
         Due.is("16 part 3", x.says(0, 3), NO);
         Due.is("16 part -1", x.says(0, -1), NO);
         Due.is("16 cart 1", x.says(1, 0), NO);
@@ -384,6 +401,7 @@ public final class PricesTest {
         Due.is("18 FULL", x.find(0, 0, 0), FULL);
         Due.is("18 BAD ahead of FULL", x.find(1, 0, 0), BAD);
         Due.is("18 FINDS", x.count(6), 20);
+        Due.is("18 all of them", x.finds(10), 7 * 9999);
     }
 
     private static void whose() {
