@@ -54,7 +54,10 @@ public final class DustYards {
         for (int i = 0; i < TEXT_0.length(); i++) {
             tape.put(TEXT_0.charAt(i));
         }
-        text();
+        // Not by text(): from there the reading would go one call deeper than the language leaves room for.
+        contracts.texts[0].readFrom(tape);
+        contracts.textNumber = 1;
+        tape.empty();
     }
 
     // ---- carts, heaps

@@ -7,6 +7,7 @@ public final class CartsEdgesTest {
     }
 
     public static void main(String[] args) {
+        constantsAreAsTold();
         aNewObjectIsEmpty();
         dayGoesTo399();
         sixtyDaysUpTo399();
@@ -32,6 +33,14 @@ public final class CartsEdgesTest {
         sellIsCut();
         sellByWhatIsKnownNow();
         Due.end();
+    }
+
+    private static void constantsAreAsTold() {
+        Due.is("==== 1 NONE", DustYards.NONE, -1);
+        Due.is("==== 1 BAD", DustYards.BAD, -2);
+        Due.is("==== 1 STATE", DustYards.STATE, -3);
+        Due.is("==== 1 FULL", DustYards.FULL, -4);
+        Due.is("==== 1 NO", DustYards.NO, -4611686018427387904L);
     }
 
     private static void aNewObjectIsEmpty() {

@@ -21,6 +21,7 @@ public final class TextsEdgesTest {
         thePartsInTheirOrder();
         nothingBehindTheLast();
         keysAreNoNames();
+        eachKeyHasItsPlace();
         whatCanStandWhere();
         fiveAreOpen();
         openTillTheyEnd();
@@ -269,6 +270,33 @@ public final class TextsEdgesTest {
             fine("pay " + name + REST);
             fault(name + " 1" + REST, 0);
             fault("pay 1 " + name + REST, 6);
+        }
+    }
+
+    /** Each KEY or NAME in the place of each KEY: only the one that is due can stand there. */
+    private static void eachKeyHasItsPlace() {
+        String[] text = {"pay", "not", "1", "or", "2", "and", "3", ";", "fine", "4", ";", "find", "5", ";"};
+        String[] words = {"pay", "fine", "find", "or", "and", "not", "weight", "day", "wet", "kind", "missed", "price"};
+        for (int at = 0; at < text.length; at++) {
+            for (String word : words) {
+                String[] other = text.clone();
+                other[at] = word;
+                String joined = String.join(" ", other);
+                boolean isName = "weight day wet kind missed price".contains(word);
+                boolean joins = word.equals("or") || word.equals("and");
+                boolean isOne = Character.isDigit(text[at].charAt(0));
+                boolean isJoint = text[at].equals("or") || text[at].equals("and");
+                int place = String.join(" ", java.util.Arrays.copyOf(other, at)).length() + (at == 0 ? 0 : 1);
+                if (word.equals(text[at]) || isOne && isName || isJoint && joins) {
+                    fine(joined);
+                } else if (text[at].equals("not") && isName || isOne && word.equals("not")
+                        || text[at].equals(";") && joins) {
+                    // It can stand there itself, but what follows it can't; or nothing follows it.
+                    fault(joined, Math.min(place + word.length() + 1, joined.length()));
+                } else {
+                    fault(joined, place);
+                }
+            }
         }
     }
 
