@@ -1107,6 +1107,7 @@ public final class DustYards {
         private static final int MOST_ASKED = 8;
         // More than any cart holds, so that carts and the last one's load lie in one number.
         private static final int CART = 10000;
+        private static final int MORE_THAN_ALL = CART * (MOST_ASKED + 1);
 
         final int[] parish = new int[MOST_DOORS];
         final int[] pounds = new int[MOST_DOORS];
@@ -1179,7 +1180,7 @@ public final class DustYards {
             int sets = 1 << n;
             least[0] = 0;
             for (int set = 1; set < sets; set++) {
-                int best = Integer.MAX_VALUE;
+                int best = MORE_THAN_ALL;
                 for (int i = 0; i < n; i++) {
                     if ((set >> i & 1) == 1) {
                         best = Math.min(best, loaded(least[set ^ 1 << i], asked[i], most));

@@ -30,8 +30,8 @@ public final class LanguageTest {
             "System", Set.of("arraycopy"),
             "Arrays", Set.of("copyOf", "copyOfRange", "fill"),
             "Math", Set.of("max", "min", "abs", "floorDiv", "floorMod"),
-            "Integer", Set.of("bitCount", "compare", "MAX_VALUE", "MIN_VALUE"),
-            "Long", Set.of("compare", "MAX_VALUE", "MIN_VALUE"));
+            "Integer", Set.of("bitCount", "compare"),
+            "Long", Set.of("compare"));
     private static final Set<Tree.Kind> NEVER = Set.of(Tree.Kind.THROW, Tree.Kind.TRY, Tree.Kind.CATCH,
             Tree.Kind.SYNCHRONIZED, Tree.Kind.ASSERT, Tree.Kind.LAMBDA_EXPRESSION, Tree.Kind.MEMBER_REFERENCE,
             Tree.Kind.ANNOTATION);

@@ -13,6 +13,8 @@ public final class TextsEdgesTest {
         anEmptyTape();
         eachByteBehindANumber();
         eachByteAtTheBegin();
+        eachByteBehindAWord();
+        eachByteBehindASign();
         blanks();
         numbersOf4();
         wordsAsLongAsCanBe();
@@ -138,6 +140,25 @@ public final class TextsEdgesTest {
             } else {
                 fault((char) b + "pay 1" + REST, 0);
             }
+        }
+    }
+
+    private static void eachByteBehindAWord() {
+        for (int b = 0; b < 256; b++) {
+            boolean isLetter = b >= 'a' && b <= 'z';
+            boolean goesOn = b == 32 || b == 10 || ";+-*<=".indexOf(b) >= 0;
+            // A letter makes it another WORD, which is neither KEY nor NAME; no other byte does.
+            fault("pay weight" + (char) b, isLetter ? 4 : goesOn ? 11 : 10);
+            boolean canStand = b == 32 || b == 10 || b == '(' || b == '-' || b >= '0' && b <= '9';
+            fault("pay" + (char) b, isLetter ? 0 : canStand ? 4 : 3);
+        }
+    }
+
+    private static void eachByteBehindASign() {
+        for (int b = 0; b < 256; b++) {
+            boolean canStand = b == 32 || b == 10 || b == '(' || b == '-' || b >= '0' && b <= '9';
+            fault("pay 1+" + (char) b, canStand ? 7 : 6);
+            fault("pay (" + (char) b, canStand ? 6 : 5);
         }
     }
 
