@@ -1221,22 +1221,23 @@ public final class DustYards {
                 }
             }
             most = NONE;
-            layFrom(0, 0, 0);
+            layFrom(this, 0, 0, 0);
         }
 
         /** Tries lesser HEAPS first, so that of like ones the first that is met is the one to keep. */
-        private void layFrom(int i, int used, int won) {
-            if (i >= calledNumber) {
-                if (won > most) {
-                    most = won;
-                    System.arraycopy(heapOf, 0, bestHeap, 0, calledNumber);
+        private static void layFrom(Hands hands, int i, int used, int won) {
+            if (i >= hands.calledNumber) {
+                if (won > hands.most) {
+                    hands.most = won;
+                    System.arraycopy(hands.heapOf, 0, hands.bestHeap, 0, hands.calledNumber);
                 }
                 return;
             }
+            int hand = hands.called[i];
             for (int heap = 0; heap < HEAPS; heap++) {
                 if ((used >> heap & 1) == 0) {
-                    heapOf[i] = heap;
-                    layFrom(i + 1, used | 1 << heap, won + win[called[i] * HEAPS + heap]);
+                    hands.heapOf[i] = heap;
+                    layFrom(hands, i + 1, used | 1 << heap, won + hands.win[hand * HEAPS + heap]);
                 }
             }
         }

@@ -12,6 +12,7 @@ import java.util.LinkedHashSet;
 import java.util.Map;
 import java.util.Set;
 import javax.lang.model.element.Element;
+import javax.lang.model.element.Modifier;
 import javax.tools.JavaCompiler;
 import javax.tools.StandardJavaFileManager;
 import javax.tools.ToolProvider;
@@ -76,8 +77,15 @@ public final class CallsTest {
                 String name = method.getSimpleName().toString();
                 boolean known = READERS.contains(name) || name.equals("layFrom");
                 Due.is("rule 8: a ring through " + name, known ? 1 : 0, 1);
+                Due.is("rule 8: private, and static where it calls itself alone: " + name, isOfRule8(method) ? 1 : 0, 1);
             }
         }
+    }
+
+    private boolean isOfRule8(Element method) {
+        Set<Modifier> flags = method.getModifiers();
+        boolean isAlone = ringOf(method).size() == 1;
+        return flags.contains(Modifier.PRIVATE) && (!isAlone || flags.contains(Modifier.STATIC));
     }
 
     private void depth() {

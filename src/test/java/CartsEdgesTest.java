@@ -18,6 +18,7 @@ public final class CartsEdgesTest {
         shortIsCut();
         shortByAllThatItIsBelow();
         shortByWeightNotByDry();
+        toldOfEachCart();
         siftToThePound();
         siftOfNothing();
         siftTheMostPounds();
@@ -189,6 +190,28 @@ public final class CartsEdgesTest {
         Due.is("==== 1 nor less so", x.cartTold(1, 10), 500);
         x.sift(0, 0);
         Due.is("==== 1 nor is a SIFTED one less so", x.cartTold(1, 10), 500);
+    }
+
+    private static void toldOfEachCart() {
+        DustYards x = new DustYards();
+        int[][] due = new int[40][];
+        for (int c = 0; c < 40; c++) {
+            int weight = 1000 + 100 * c;
+            int dry = weight - weight * c / 100;
+            int breeze = dry * new int[] {20, 50, 10, 70, 10, 10}[c % 6] / 100;
+            int soil = dry * new int[] {40, 40, 50, 20, 70, 80}[c % 6] / 100;
+            int bones = dry * new int[] {5, 5, 10, 0, 20, 5}[c % 6] / 100;
+            int rags = dry * new int[] {3, 3, 3, 3, 0, 3}[c % 6] / 100;
+            due[c] = new int[] {c % 6, c / 7, c % 5, weight, dry, breeze, soil, bones, rags,
+                dry - breeze - soil - bones - rags, 5000 + c, c, 0};
+            Due.is("3 its number", x.cart(c % 6, c / 7, c % 5, weight, c, weight + 5000 + c), c);
+            x.pass(1);
+        }
+        for (int c = 0; c < 40; c++) {
+            for (int what = 0; what <= 12; what++) {
+                Due.is("4 of cart " + c + ", what " + what, x.cartTold(c, what), due[c][what]);
+            }
+        }
     }
 
     private static void siftToThePound() {

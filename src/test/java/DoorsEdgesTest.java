@@ -20,6 +20,7 @@ public final class DoorsEdgesTest {
         roundsToTheYard();
         someDoorCantBeServed();
         theFewestCarts();
+        roundsOfItsOwnDoors();
         fiveRows();
         bidWithoutRows();
         bidWithoutCarts();
@@ -27,6 +28,7 @@ public final class DoorsEdgesTest {
         bidEachCut();
         bidAsItCame();
         bidOfTheLeastRow();
+        theBidFromTo();
         theGreatestBid();
         Due.end();
     }
@@ -206,6 +208,28 @@ public final class DoorsEdgesTest {
         }
     }
 
+    private static void roundsOfItsOwnDoors() {
+        DustYards x = new DustYards();
+        // Of weekdays in turn, so that no weekday has the DOORS that were told first.
+        int[][] pounds = {{10, 500, 900}, {20, 600, 900}, {30, 700, 900}, {40, 800, 900}};
+        for (int[] of : pounds) {
+            for (int weekday = 0; weekday < 3; weekday++) {
+                x.door(weekday, of[weekday], weekday, 10 * of[weekday]);
+            }
+        }
+        Due.is("23 100 pounds of weekday 0", x.rounds(0, 100, 800), 1);
+        Due.is("23 in two carts", x.rounds(0, 50, 800), 2);
+        Due.is("23 one pound less", x.rounds(0, 49, 800), 3);
+        Due.is("23 its furthest DOOR", x.rounds(0, 100, 799), NONE);
+        Due.is("23 of weekday 1 in two carts", x.rounds(1, 1300, 16000), 2);
+        Due.is("23 one pound less", x.rounds(1, 1299, 16000), 3);
+        Due.is("23 its furthest DOOR", x.rounds(1, 1300, 15999), NONE);
+        Due.is("23 its heaviest DOOR", x.rounds(1, 799, 16000), NONE);
+        Due.is("23 of weekday 2 one cart each", x.rounds(2, 1799, 18000), 4);
+        Due.is("23 two a cart", x.rounds(2, 1800, 18000), 2);
+        Due.is("23 its DOORS are too heavy", x.rounds(2, 899, 18000), NONE);
+    }
+
     private static void fiveRows() {
         DustYards x = new DustYards();
         for (int r = 0; r < 5; r++) {
@@ -309,6 +333,28 @@ public final class DoorsEdgesTest {
         Due.is("==== 4 the other PARISH by the other ROW", x.bid(1, 0, 0, -1), 100 + 80);
         x.row(0, 0);
         Due.is("==== 4 a ROW of no pence", x.bid(0, 0, 0, -1), 0);
+    }
+
+    private static void theBidFromTo() {
+        DustYards x = new DustYards();
+        x.row(0, 0);
+        x.row(50, 100);
+        DustYards y = new DustYards();
+        y.row(100, 0);
+        y.row(0, 100);
+        for (int day = 0; day < 4; day++) {
+            x.cart(0, 0, 0, 1000, 0, 0);
+            y.cart(3, 0, 0, 100 << day, 0, 0);
+            x.pass(1);
+            y.pass(1);
+        }
+        Due.is("==== 4 the first ROW's is 0: no other is less", x.bid(0, 0, 3, -1), 0);
+        Due.is("==== 4 all DAYS, by SOIL", y.bid(0, 0, 399, -1), 20 * 15);
+        Due.is("==== 4 THE BID is of DAYS from", y.bid(0, 2, 399, -1), 20 * (4 + 8));
+        Due.is("==== 4 THE BID is of DAYS to", y.bid(0, 0, 1, -1), 20 * (1 + 2));
+        Due.is("==== 4 THE BID of one DAY", y.bid(0, 1, 1, -1), 20 * 2);
+        Due.is("==== 4 by the other ROW", y.bid(0, 1, 2, 0), 70 * (2 + 4));
+        Due.is("==== 4 behind all carts", y.bid(0, 4, 399, -1), 0);
     }
 
     private static void theGreatestBid() {

@@ -17,6 +17,7 @@ public final class PricesEdgesTest {
         twentyContracts();
         contractFromFirstToLastDay();
         contractToldLast();
+        twentyContractsOfOneParish();
         contractOfTextsThatAre();
         saysOfCartsThatAre();
         saysTextZero();
@@ -172,6 +173,23 @@ public final class PricesEdgesTest {
         x.pass(60);
         x.contract(3, 50, 0);
         Due.is("==== 3 told in a later DAY, from an earlier one on", x.contractOf(3, 50), 0);
+    }
+
+    private static void twentyContractsOfOneParish() {
+        DustYards x = new DustYards();
+        for (int i = 1; i <= 5; i++) {
+            Due.text(x, "pay 1;fine 1;find 1;");
+        }
+        // From later DAYS first: the one that is asked for may stand anywhere among them.
+        for (int i = 20; i >= 1; i--) {
+            x.contract(1, 10 * i, i % 5 + 1);
+        }
+        Due.is("15 ahead of the first DAY", x.contractOf(1, 9), 0);
+        Due.is("15 of another PARISH", x.contractOf(2, 399), 0);
+        for (int i = 1; i <= 20; i++) {
+            Due.is("15 from DAY " + 10 * i, x.contractOf(1, 10 * i), i % 5 + 1);
+            Due.is("15 till the next one", x.contractOf(1, 10 * i + 9), i % 5 + 1);
+        }
     }
 
     private static void contractOfTextsThatAre() {

@@ -25,8 +25,11 @@ public final class TextsEdgesTest {
         keysAreNoNames();
         eachKeyHasItsPlace();
         whatCanStandWhere();
+        whatCanStandNowhere();
         fiveAreOpen();
         openTillTheyEnd();
+        openBehindEachJoint();
+        asManyAsHaveRoom();
         theFirstFault();
         sixTexts();
         wrapsAround();
@@ -274,6 +277,9 @@ public final class TextsEdgesTest {
         fault("pay 1;fine 1;find 1;pay 1;fine 1;find 1;", 20);
         fault("pay 1;fine 1;find 1; 7", 21);
         fault("pay 1;fine 1;find 1; weight", 21);
+        fault("pay 1;fine 1;find 1; nix", 21);
+        fault("pay 1;fine 1;find 1; or", 21);
+        fault("pay 1;fine 1;find 1;?", 20);
         fault("pay 1;fine 1;find 1;\n)", 21);
         fault("pay 1;fine 1;find 1;12345", 20);
         fault("pay 1;fine 1;find 1;" + (char) 0, 20);
@@ -356,6 +362,24 @@ public final class TextsEdgesTest {
         fault("pay (1)(1)" + REST, 7);
     }
 
+    /** In the place of each TOKEN, and between all: a NUMBER that is too long, a WORD that is none, other bytes. */
+    private static void whatCanStandNowhere() {
+        String[] text = {"pay", "not", "(", "1", "+", "-", "2", ")", "*", "3", "<", "weight", "-", "4", "or", "5", "=",
+            "6", "and", "7", ";", "fine", "8", ";", "find", "9", ";"};
+        fine(String.join(" ", text));
+        String[] nothings = {"12345", "00000", "123456789012345678901", "nix", "payy", "fin", "?", ">", "/", ",", ":",
+            "\t", "A", "" + (char) 127, "" + (char) 128, "" + (char) 255, "" + (char) 0};
+        for (String nothing : nothings) {
+            StringBuilder ahead = new StringBuilder();
+            for (String token : text) {
+                fault(ahead + nothing + " " + token, ahead.length());
+                fault(ahead + nothing, ahead.length());
+                ahead.append(token).append(' ');
+            }
+            fault(ahead + nothing, ahead.length());
+        }
+    }
+
     private static void fiveAreOpen() {
         // Each way in which six could stand open: the sixth is the FAULT, and five are fine.
         String[] opens = {"(", "-", "not "};
@@ -411,6 +435,51 @@ public final class TextsEdgesTest {
         fault("pay (((((1 and not 1)))))" + REST, 15);
         // A sixth that could not stand there anyhow.
         fault("pay (((((1(", 10);
+    }
+
+    /** What stands open around a joint stands open on both its sides; what ended there does not. */
+    private static void openBehindEachJoint() {
+        for (String joint : new String[] {"+", "-", "*", "<", "=", " or ", " and "}) {
+            String five = "pay (((((1" + joint;
+            fine(five + "1)))))" + REST);
+            fault(five + "(1))))))" + REST, five.length());
+            fault(five + "-1)))))" + REST, five.length());
+            String four = "pay ((((1" + joint;
+            fine(four + "(1)))))" + REST);
+            fault(four + "((1))))))" + REST, four.length() + 1);
+            fine(four + "-1))))" + REST);
+            fault(four + "--1))))" + REST, four.length() + 1);
+            boolean joinsNots = joint.length() > 1;
+            fault(five + "not 1)))))" + REST, five.length());
+            fault(four + "not not 1))))" + REST, four.length() + (joinsNots ? 4 : 0));
+            if (joinsNots) {
+                fine(four + "not 1))))" + REST);
+            }
+        }
+        for (String joint : new String[] {"+", "-", "*", " or ", " and "}) {
+            String eight = "pay 1" + (joint + "1").repeat(7) + joint;
+            fine(eight + "(((((1)))))" + REST);
+            fine(eight + "-----1" + REST);
+            fault(eight + "((((((1))))))" + REST, eight.length() + 5);
+            String eightInFive = "pay (((((1" + (joint + "1").repeat(7) + joint;
+            fine(eightInFive + "1)))))" + REST);
+            fault(eightInFive + "(1))))))" + REST, eightInFive.length());
+        }
+    }
+
+    private static void chain(String e, long due) {
+        Due.is("160 bytes: " + e, ("pay " + e + ";fine 0;find 0;").length(), 160);
+        value(e, due);
+    }
+
+    private static void asManyAsHaveRoom() {
+        chain("1" + "+1".repeat(70), 71);
+        chain("1" + "-1".repeat(70), -69);
+        chain("5" + "*1".repeat(69) + "*7", 35);
+        chain("0" + "or 0".repeat(34) + "or 7", 1);
+        chain("0" + "or 0".repeat(35), 0);
+        chain("5" + "and 7".repeat(28), 1);
+        chain("5" + "and 7".repeat(27) + "and 0", 0);
     }
 
     private static void theFirstFault() {
