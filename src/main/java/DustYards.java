@@ -60,8 +60,6 @@ public final class DustYards {
         tape.empty();
     }
 
-    // ---- carts, heaps
-
     public int pass(int n) {
         if (!within(n, 1, MOST_DAYS_AT_ONCE)) {
             return BAD;
@@ -72,6 +70,8 @@ public final class DustYards {
         day += n;
         return day;
     }
+
+    // ---- carts, heaps
 
     public int cart(int kind, int parish, int heap, int weight, int water, int eye) {
         if (!within(kind, 0, KINDS - 1) || !isParish(parish) || !isHeap(heap)) {

@@ -3,6 +3,7 @@ import com.sun.source.util.JavacTask;
 import com.sun.source.util.TreeScanner;
 import java.lang.reflect.Member;
 import java.lang.reflect.Modifier;
+import java.nio.file.Files;
 import java.nio.file.Path;
 import java.util.ArrayList;
 import java.util.Arrays;
@@ -41,6 +42,7 @@ public final class LanguageTest {
 
     public static void main(String[] args) throws Exception {
         face();
+        headings();
         source();
         Due.end();
     }
@@ -71,6 +73,18 @@ public final class LanguageTest {
             is("rule 2: static " + inside, Modifier.isStatic(inside.getModifiers()));
         }
         is("rule 11: some twelve classes", DustYards.class.getDeclaredClasses().length < 12);
+    }
+
+    /** What the document's interface says ahead of its calls, with the first call behind it. */
+    private static void headings() throws Exception {
+        Map<String, String> first = Map.of("carts, heaps", "cart", "prices, contracts", "price", "doors, bids", "door",
+                "hands, barges, buyers", "wins", "the host", "sheet");
+        String source = Files.readString(SOURCE);
+        for (Map.Entry<String, String> heading : first.entrySet()) {
+            int at = source.indexOf("    // ---- " + heading.getKey() + "\n");
+            String behind = at < 0 ? "" : source.substring(at).split("\\R", 4)[2];
+            is("---- " + heading.getKey(), behind.startsWith("    public int " + heading.getValue() + "("));
+        }
     }
 
     private static void source() throws Exception {
